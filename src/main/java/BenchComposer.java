@@ -404,7 +404,6 @@ public final class BenchComposer {
             leastSenior = 1;
             judges = 0;
             cases = 0;
-            seniors = 0;
         }
 
         void become(Told other) {
@@ -516,12 +515,11 @@ public final class BenchComposer {
             count = Math.min(count + 1, MOST_UNDONE);
         }
 
+        /** Only if count is not 0. */
         void giveBack(Docket docket) {
-            if (count > 0) {
-                next = (next + ROWS - 1) % ROWS;
-                count--;
-                docket.become(rows[next]);
-            }
+            next = (next + ROWS - 1) % ROWS;
+            count--;
+            docket.become(rows[next]);
         }
     }
 
@@ -610,26 +608,22 @@ public final class BenchComposer {
             Arrays.fill(pairs, 0);
             Arrays.fill(loads, 0);
             for (int one = 0; one < told.cases; one++) {
-                if (one != without && docket.sitting[one] != 0) {
-                    countBench(docket.sitting[one], told.weight[one]);
+                int bench = docket.sitting[one];
+                if (one != without && bench != 0) {
+                    countBench(bench, told.weight[one], told.presiding(bench));
                 }
             }
         }
 
-        private void countBench(int bench, int weight) {
-            int first = told.presiding(bench);
+        private void countBench(int bench, int weight, int first) {
             for (int judge = 0; judge < told.judges; judge++) {
                 if (has(bench, judge)) {
                     loads[judge] += judge == first ? weight + told.chair : weight;
-                    countPairs(bench, judge);
-                }
-            }
-        }
-
-        private void countPairs(int bench, int judge) {
-            for (int other = judge + 1; other < told.judges; other++) {
-                if (has(bench, other)) {
-                    pairs[pairPlace(judge, other)]++;
+                    for (int other = judge + 1; other < told.judges; other++) {
+                        if (has(bench, other)) {
+                            pairs[pairPlace(judge, other)]++;
+                        }
+                    }
                 }
             }
         }
@@ -943,7 +937,6 @@ public final class BenchComposer {
         private int at;
         private int kind;
         private int value;
-        private int taken;
         private boolean seniorTold;
 
         Reader(Tape tape) {
@@ -960,143 +953,124 @@ public final class BenchComposer {
             seniorTold = false;
             step();
             // A LINE takes a byte at least, so no tape has more of them.
-            for (int i = 0; i < MOST_TAPE && kind != END; i++) {
-                if (!readLine()) {
-                    return false;
+            for (int i = 0; i < MOST_TAPE && kind != END && fault == 0; i++) {
+                readLine();
+            }
+            if (fault == 0 && tape.length > MOST_TEXT) {
+                fault = CANNOT_COME;
+            }
+            return fault == 0;
+        }
+
+        private void readLine() {
+            if (lines == 0) {
+                readCourt();
+            } else if (isWord("judge")) {
+                readJudge();
+            } else if (isWord("senior")) {
+                readSenior();
+            } else if (isWord("case")) {
+                readCase();
+            } else {
+                fault = CANNOT_COME;
+            }
+            takeSign();
+        }
+
+        private void readCourt() {
+            if (!isWord("court")) {
+                fault = CANNOT_COME;
+                return;
+            }
+            step();
+            draft.seed = takeNumber(0, 9999);
+            draft.unsure = takeNumber(1, 20);
+            draft.even = takeNumber(0, 9);
+            draft.loaded = takeNumber(0, 9);
+            draft.chair = takeNumber(0, 9);
+        }
+
+        private void readJudge() {
+            if (draft.judges >= MOST_JUDGES) {
+                fault = TOO_MANY;
+                return;
+            }
+            step();
+            draft.seniority[draft.judges] = takeNumber(1, 99);
+            draft.judges++;
+        }
+
+        private void readSenior() {
+            if (seniorTold) {
+                fault = TOO_MANY;
+                return;
+            }
+            seniorTold = true;
+            step();
+            draft.leastSenior = takeNumber(1, 99);
+        }
+
+        private void readCase() {
+            int one = draft.cases;
+            if (one >= MOST_CASES) {
+                fault = TOO_MANY;
+                return;
+            }
+            step();
+            draft.weight[one] = takeNumber(1, 9);
+            draft.barred[one] = 0;
+            draft.cases++;
+            if (fault == 0 && isWord("not")) {
+                step();
+                draft.barred[one] = takeBarred();
+            }
+        }
+
+        /** At least one J, as bits. */
+        private int takeBarred() {
+            int bits = 0;
+            if (kind != NUMBER) {
+                fault = CANNOT_COME;
+            }
+            for (int i = 0; i <= MOST_JUDGES && kind == NUMBER && fault == 0; i++) {
+                if (!draft.hasJudge(value) || has(bits, value)) {
+                    fault = NO_SUCH_JUDGE;
+                } else {
+                    bits |= 1 << value;
+                    step();
                 }
             }
-            return tape.length <= MOST_TEXT || fail(CANNOT_COME);
+            return bits;
         }
 
-        private boolean fail(int why) {
-            fault = why;
-            return false;
+        /** Behind a FAULT nothing more is read, so that start stays its place. */
+        private int takeNumber(int least, int most) {
+            if (fault != 0) {
+                return NONE;
+            }
+            if (kind != NUMBER) {
+                fault = CANNOT_COME;
+                return NONE;
+            }
+            if (value < least || value > most) {
+                fault = NOT_AS_TOLD;
+                return NONE;
+            }
+            int taken = value;
+            step();
+            return taken;
         }
 
-        private boolean readLine() {
-            boolean right = lines == 0 ? readCourt() : readOther();
-            if (!right) {
-                return false;
+        private void takeSign() {
+            if (fault != 0) {
+                return;
             }
             if (kind != SIGN) {
-                return fail(CANNOT_COME);
+                fault = CANNOT_COME;
+                return;
             }
             lines++;
             step();
-            return true;
-        }
-
-        private boolean readCourt() {
-            if (!isWord("court")) {
-                return fail(CANNOT_COME);
-            }
-            step();
-            if (!takeNumber(0, 9999)) {
-                return false;
-            }
-            draft.seed = taken;
-            if (!takeNumber(1, 20)) {
-                return false;
-            }
-            draft.unsure = taken;
-            if (!takeNumber(0, 9)) {
-                return false;
-            }
-            draft.even = taken;
-            if (!takeNumber(0, 9)) {
-                return false;
-            }
-            draft.loaded = taken;
-            if (!takeNumber(0, 9)) {
-                return false;
-            }
-            draft.chair = taken;
-            return true;
-        }
-
-        private boolean readOther() {
-            if (isWord("judge")) {
-                return readJudge();
-            }
-            if (isWord("senior")) {
-                return readSenior();
-            }
-            if (isWord("case")) {
-                return readCase();
-            }
-            return fail(CANNOT_COME);
-        }
-
-        private boolean readJudge() {
-            if (draft.judges >= MOST_JUDGES) {
-                return fail(TOO_MANY);
-            }
-            step();
-            if (!takeNumber(1, 99)) {
-                return false;
-            }
-            draft.seniority[draft.judges] = taken;
-            draft.judges++;
-            return true;
-        }
-
-        private boolean readSenior() {
-            if (seniorTold) {
-                return fail(TOO_MANY);
-            }
-            step();
-            if (!takeNumber(1, 99)) {
-                return false;
-            }
-            draft.leastSenior = taken;
-            seniorTold = true;
-            return true;
-        }
-
-        private boolean readCase() {
-            if (draft.cases >= MOST_CASES) {
-                return fail(TOO_MANY);
-            }
-            step();
-            if (!takeNumber(1, 9)) {
-                return false;
-            }
-            draft.weight[draft.cases] = taken;
-            draft.barred[draft.cases] = 0;
-            if (isWord("not")) {
-                step();
-                if (!readBarred(draft.cases)) {
-                    return false;
-                }
-            }
-            draft.cases++;
-            return true;
-        }
-
-        private boolean readBarred(int one) {
-            if (kind != NUMBER) {
-                return fail(CANNOT_COME);
-            }
-            for (int i = 0; i < MOST_TAPE && kind == NUMBER; i++) {
-                if (!draft.hasJudge(value) || has(draft.barred[one], value)) {
-                    return fail(NO_SUCH_JUDGE);
-                }
-                draft.barred[one] |= 1 << value;
-                step();
-            }
-            return true;
-        }
-
-        private boolean takeNumber(int least, int most) {
-            if (kind != NUMBER) {
-                return fail(CANNOT_COME);
-            }
-            if (value < least || value > most) {
-                return fail(NOT_AS_TOLD);
-            }
-            taken = value;
-            step();
-            return true;
         }
 
         private boolean isWord(String word) {
@@ -1111,7 +1085,7 @@ public final class BenchComposer {
             return true;
         }
 
-        /** The next TOKEN lies from start to at; it ends behind byte 500 if it begins ahead of it. */
+        /** The next TOKEN is from start to at, and goes on behind byte 500 if it begins ahead of it. */
         private void step() {
             while (at < tape.length && isBlank(tape.bytes[at])) {
                 at++;
@@ -1123,30 +1097,22 @@ public final class BenchComposer {
                 return;
             }
             start = at;
-            if (isSmall(tape.bytes[at]) || isDigit(tape.bytes[at])) {
-                stepOverRun();
-            } else {
-                kind = tape.bytes[at] == ';' ? SIGN : NO_TOKEN;
-                at++;
-            }
-        }
-
-        private void stepOverRun() {
             int digits = 0;
             value = 0;
-            while (at < tape.length && (isSmall(tape.bytes[at]) || isDigit(tape.bytes[at]))) {
-                if (isDigit(tape.bytes[at])) {
+            while (at < tape.length && isSmallOrDigit(tape.bytes[at])) {
+                if (tape.bytes[at] <= '9') {
                     digits++;
                     value = value * 10 + (tape.bytes[at] - '0');
                 }
                 at++;
             }
-            if (digits == 0) {
+            if (at == start) {
+                kind = tape.bytes[at] == ';' ? SIGN : NO_TOKEN;
+                at++;
+            } else if (digits == 0) {
                 kind = WORD;
-            } else if (digits == at - start && digits <= MOST_DIGITS) {
-                kind = NUMBER;
             } else {
-                kind = NO_TOKEN;
+                kind = digits == at - start && digits <= MOST_DIGITS ? NUMBER : NO_TOKEN;
             }
         }
 
@@ -1154,12 +1120,8 @@ public final class BenchComposer {
             return sign == 32 || sign == 10;
         }
 
-        private static boolean isSmall(int sign) {
-            return sign >= 'a' && sign <= 'z';
-        }
-
-        private static boolean isDigit(int sign) {
-            return sign >= '0' && sign <= '9';
+        private static boolean isSmallOrDigit(int sign) {
+            return sign >= 'a' && sign <= 'z' || sign >= '0' && sign <= '9';
         }
     }
 }
