@@ -5,16 +5,25 @@ import java.util.NoSuchElementException;
 final class Check {
     private static int wrong = 0;
     private static int checked = 0;
+    private static int shown = 0;
+    private static String sentence = "";
 
     private Check() {
+    }
+
+    /** The answers that follow are due by this sentence. */
+    static void by(String words) {
+        sentence = words + ": ";
+        shown = 0;
     }
 
     static void due(String what, long got, long want) {
         checked++;
         if (got != want) {
             wrong++;
-            if (wrong <= 50) {
-                System.out.println(what + " answered " + got + ", due is " + want);
+            shown++;
+            if (shown <= 20) {
+                System.out.println(sentence + what + " answered " + got + ", due is " + want);
             }
         }
     }
@@ -80,9 +89,20 @@ final class Check {
         return x.text();
     }
 
-    static BenchComposer court(String text) {
+    /** A TEXT of so many LINES. */
+    static void right(String text, int lines) {
         BenchComposer x = new BenchComposer();
-        due("text is right: " + text, tell(x, text) >= 0, true);
-        return x;
+        due("text: " + text, tell(x, text), lines);
+        due("fault of: " + text, x.fault(), 0);
+        due("tape behind: " + text, x.now(6), 0);
+    }
+
+    /** A text with a FAULT. */
+    static void wrong(String text, int place, int kind) {
+        BenchComposer x = new BenchComposer();
+        due("text: " + text, tell(x, text), -1 - place);
+        due("fault of: " + text, x.fault(), kind);
+        due("tape behind: " + text, x.now(6), 0);
+        due("judges behind: " + text, x.now(0), 0);
     }
 }

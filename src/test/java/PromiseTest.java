@@ -1,11 +1,10 @@
 /** Each promise of the document by answers worked out by hand. */
 public final class PromiseTest {
-    private static final String COURT = "court 1 1 1 1 1;";
+    private static final String COURT = Courts.COURT;
     private static final int MIN = Integer.MIN_VALUE;
     private static final int MAX = Integer.MAX_VALUE;
 
-    /** The ten benches of five judges in order. */
-    private static final int[] OF_FIVE = {7, 11, 19, 13, 21, 25, 14, 22, 26, 28};
+    private static final int[] OF_FIVE = Courts.OF_FIVE;
 
     public static void main(String[] args) {
         promise1NewObject();
@@ -43,40 +42,6 @@ public final class PromiseTest {
 
     private static void due(String what, long got, long want) {
         Check.due(what, got, want);
-    }
-
-    /** Its first three cases can have one bench alone: 0 1 2, 2 3 4, 1 2 3. */
-    private static String fiveJudges(int unsure) {
-        return "court 5 " + unsure + " 2 3 4;judge 10;judge 30;judge 30;judge 20;judge 5;"
-                + "case 6 not 3 4;case 2 not 0 1;case 9 not 0 4;case 1;";
-    }
-
-    private static BenchComposer threeDrawn(int unsure) {
-        BenchComposer x = Check.court(fiveJudges(unsure));
-        due("draw(0)", x.draw(0), 7);
-        due("draw(1)", x.draw(1), 28);
-        due("draw(2)", x.draw(2), 14);
-        return x;
-    }
-
-    private static BenchComposer drawnAs(String cases, int... benches) {
-        return drawnAs("judge 5;judge 5;judge 5;judge 5;judge 5;", cases, benches);
-    }
-
-    /** A seed is looked for that draws the wanted benches. */
-    private static BenchComposer drawnAs(String judges, String cases, int... benches) {
-        for (int seed = 0; seed <= 9999; seed++) {
-            BenchComposer x = Check.court("court " + seed + " 20 0 0 0;" + judges + cases);
-            x.drawAll();
-            boolean alike = true;
-            for (int one = 0; one < benches.length; one++) {
-                alike &= x.of(one, 3) == benches[one];
-            }
-            if (alike) {
-                return x;
-            }
-        }
-        throw new IllegalStateException("no seed draws these benches");
     }
 
     private static void promise1NewObject() {
@@ -138,123 +103,100 @@ public final class PromiseTest {
         Check.due("end(8)", x.end(8), false);
     }
 
-    private static void right(String text, int lines) {
-        BenchComposer x = new BenchComposer();
-        due("text: " + text, Check.tell(x, text), lines);
-        due("fault of: " + text, x.fault(), 0);
-        due("tape behind: " + text, x.now(6), 0);
-    }
-
-    private static void wrong(String text, int place, int kind) {
-        BenchComposer x = new BenchComposer();
-        due("text: " + text, Check.tell(x, text), -1 - place);
-        due("fault of: " + text, x.fault(), kind);
-        due("tape behind: " + text, x.now(6), 0);
-        due("judges behind: " + text, x.now(0), 0);
-    }
-
     private static void promise4Text() {
-        right("", 0);
-        right(" \n ", 0);
-        right(COURT, 1);
-        right("court 9999 20 9 9 9;", 1);
-        right("court 0 1 0 0 0;", 1);
-        right("court\n0000 0001 00 0009 9\n;\njudge 0099;", 2);
-        right(COURT + "judge 1;senior 99;judge 99;case 9 not 1 0;case 1;", 6);
+        Check.right("", 0);
+        Check.right(" \n ", 0);
+        Check.right(COURT, 1);
+        Check.right("court 9999 20 9 9 9;", 1);
+        Check.right("court 0 1 0 0 0;", 1);
+        Check.right("court\n0000 0001 00 0009 9\n;\njudge 0099;", 2);
+        Check.right(COURT + "judge 1;senior 99;judge 99;case 9 not 1 0;case 1;", 6);
 
-        wrong(";", 0, 1);
-        wrong("judge 1;", 0, 1);
-        wrong("court", 5, 1);
-        wrong("court  ", 7, 1);
-        wrong("courts 1 1 1 1 1;", 0, 1);
-        wrong("cour 1 1 1 1 1;", 0, 1);
-        wrong("courtz 1 1 1 1 1;", 0, 1);
-        wrong("dourt 1 1 1 1 1;", 0, 1);
-        wrong("court1 1 1 1 1;", 0, 1);
-        wrong("court 1z 1 1 1 1;", 6, 1);
-        wrong("Court 1 1 1 1 1;", 0, 1);
-        wrong("court\t1 1 1 1 1;", 5, 1);
-        wrong("court\r1 1 1 1 1;", 5, 1);
-        wrong("court \0 1 1 1 1;", 6, 1);
-        wrong("court " + (char) 233 + ";", 6, 1);
-        wrong("court -1 1 1 1 1;", 6, 1);
-        wrong("court 12345 1 1 1 1;", 6, 1);
-        wrong("court 00001 1 1 1 1;", 6, 1);
-        wrong("court 1a 1 1 1 1;", 6, 1);
-        wrong("court a1 1 1 1 1;", 6, 1);
-        wrong("court x 1 1 1 1;", 6, 1);
-        wrong("court 1 0 1 1 1;", 8, 2);
-        wrong("court 1 21 1 1 1;", 8, 2);
-        wrong("court 1 1 10 1 1;", 10, 2);
-        wrong("court 1 1 1 10 1;", 12, 2);
-        wrong("court 1 1 1 1 10;", 14, 2);
-        wrong("court 1 1 1 1;", 13, 1);
-        wrong("court 1 1 1 1 1 1;", 16, 1);
-        wrong("court 1 1 1 1 1", 15, 1);
-        wrong("court 1 1 1 1 1 ", 16, 1);
-        wrong("court 1 1 1 1 1 judge;", 16, 1);
-        wrong(COURT + ";", 16, 1);
-        wrong(COURT + COURT, 16, 1);
-        wrong(COURT + "not 1;", 16, 1);
-        wrong(COURT + "5;", 16, 1);
-        wrong(COURT + " jugde 1;", 17, 1);
-        wrong(COURT + "fudge 1;", 16, 1);
-        wrong(COURT + "base 1;", 16, 1);
-        wrong(COURT + "zenior 1;", 16, 1);
-        wrong(COURT + "judge 1;case 1 hot 0;", 31, 1);
-        wrong(COURT + "judge;", 21, 1);
-        wrong(COURT + "judge 0;", 22, 2);
-        wrong(COURT + "judge 100;", 22, 2);
-        wrong(COURT + "judge 1 2;", 24, 1);
-        wrong(COURT + "judge 1", 23, 1);
-        wrong(COURT + "senior 0;", 23, 2);
-        wrong(COURT + "senior 100;", 23, 2);
-        wrong(COURT + "senior not;", 23, 1);
-        wrong(COURT + "case 0;", 21, 2);
-        wrong(COURT + "case 10;", 21, 2);
-        wrong(COURT + "case 1 1;", 23, 1);
-        wrong(COURT + "case 1 note;", 23, 1);
-        wrong(COURT + "case 1 not;", 26, 1);
-        wrong(COURT + "case 1 not not;", 27, 1);
-        wrong(COURT + "case 1 not 0;", 27, 4);
-        wrong(COURT + "judge 1;case 1 not 1;", 35, 4);
-        wrong(COURT + "judge 1;case 1 not 9999;", 35, 4);
-        wrong(COURT + "judge 1;case 1 not 0 0;", 37, 4);
-        wrong(COURT + "judge 1;case 1 not 0 not;", 37, 1);
-        wrong(COURT + "judge 1;case 1 not 0 00001;", 37, 1);
-        wrong(COURT + "case 1 not 0;judge 1;", 27, 4);
-        wrong(COURT + "judge 0;judge 12345;", 22, 2);
-    }
-
-    private static String times(String line, int times) {
-        StringBuilder all = new StringBuilder();
-        for (int i = 0; i < times; i++) {
-            all.append(line);
-        }
-        return all.toString();
+        Check.wrong(";", 0, 1);
+        Check.wrong("judge 1;", 0, 1);
+        Check.wrong("court", 5, 1);
+        Check.wrong("court  ", 7, 1);
+        Check.wrong("courts 1 1 1 1 1;", 0, 1);
+        Check.wrong("cour 1 1 1 1 1;", 0, 1);
+        Check.wrong("courtz 1 1 1 1 1;", 0, 1);
+        Check.wrong("dourt 1 1 1 1 1;", 0, 1);
+        Check.wrong("court1 1 1 1 1;", 0, 1);
+        Check.wrong("court 1z 1 1 1 1;", 6, 1);
+        Check.wrong("Court 1 1 1 1 1;", 0, 1);
+        Check.wrong("court\t1 1 1 1 1;", 5, 1);
+        Check.wrong("court\r1 1 1 1 1;", 5, 1);
+        Check.wrong("court \0 1 1 1 1;", 6, 1);
+        Check.wrong("court " + (char) 233 + ";", 6, 1);
+        Check.wrong("court -1 1 1 1 1;", 6, 1);
+        Check.wrong("court 12345 1 1 1 1;", 6, 1);
+        Check.wrong("court 00001 1 1 1 1;", 6, 1);
+        Check.wrong("court 1a 1 1 1 1;", 6, 1);
+        Check.wrong("court a1 1 1 1 1;", 6, 1);
+        Check.wrong("court x 1 1 1 1;", 6, 1);
+        Check.wrong("court 1 0 1 1 1;", 8, 2);
+        Check.wrong("court 1 21 1 1 1;", 8, 2);
+        Check.wrong("court 1 1 10 1 1;", 10, 2);
+        Check.wrong("court 1 1 1 10 1;", 12, 2);
+        Check.wrong("court 1 1 1 1 10;", 14, 2);
+        Check.wrong("court 1 1 1 1;", 13, 1);
+        Check.wrong("court 1 1 1 1 1 1;", 16, 1);
+        Check.wrong("court 1 1 1 1 1", 15, 1);
+        Check.wrong("court 1 1 1 1 1 ", 16, 1);
+        Check.wrong("court 1 1 1 1 1 judge;", 16, 1);
+        Check.wrong(COURT + ";", 16, 1);
+        Check.wrong(COURT + COURT, 16, 1);
+        Check.wrong(COURT + "not 1;", 16, 1);
+        Check.wrong(COURT + "5;", 16, 1);
+        Check.wrong(COURT + " jugde 1;", 17, 1);
+        Check.wrong(COURT + "fudge 1;", 16, 1);
+        Check.wrong(COURT + "base 1;", 16, 1);
+        Check.wrong(COURT + "zenior 1;", 16, 1);
+        Check.wrong(COURT + "judge 1;case 1 hot 0;", 31, 1);
+        Check.wrong(COURT + "judge;", 21, 1);
+        Check.wrong(COURT + "judge 0;", 22, 2);
+        Check.wrong(COURT + "judge 100;", 22, 2);
+        Check.wrong(COURT + "judge 1 2;", 24, 1);
+        Check.wrong(COURT + "judge 1", 23, 1);
+        Check.wrong(COURT + "senior 0;", 23, 2);
+        Check.wrong(COURT + "senior 100;", 23, 2);
+        Check.wrong(COURT + "senior not;", 23, 1);
+        Check.wrong(COURT + "case 0;", 21, 2);
+        Check.wrong(COURT + "case 10;", 21, 2);
+        Check.wrong(COURT + "case 1 1;", 23, 1);
+        Check.wrong(COURT + "case 1 note;", 23, 1);
+        Check.wrong(COURT + "case 1 not;", 26, 1);
+        Check.wrong(COURT + "case 1 not not;", 27, 1);
+        Check.wrong(COURT + "case 1 not 0;", 27, 4);
+        Check.wrong(COURT + "judge 1;case 1 not 1;", 35, 4);
+        Check.wrong(COURT + "judge 1;case 1 not 9999;", 35, 4);
+        Check.wrong(COURT + "judge 1;case 1 not 0 0;", 37, 4);
+        Check.wrong(COURT + "judge 1;case 1 not 0 not;", 37, 1);
+        Check.wrong(COURT + "judge 1;case 1 not 0 00001;", 37, 1);
+        Check.wrong(COURT + "case 1 not 0;judge 1;", 27, 4);
+        Check.wrong(COURT + "judge 0;judge 12345;", 22, 2);
     }
 
     private static void promise4LongTexts() {
-        String blanks = times(" ", 500 - COURT.length());
-        right(COURT + blanks, 1);
-        wrong(COURT + blanks + " ", 500, 1);
-        wrong(COURT + blanks + times(" ", 40), 500, 1);
-        wrong(COURT + blanks + "judge 0;", 500, 1);
-        wrong(times(" ", 501), 500, 1);
-        right(times(" ", 500), 0);
+        String blanks = " ".repeat(500 - COURT.length());
+        Check.right(COURT + blanks, 1);
+        Check.wrong(COURT + blanks + " ", 500, 1);
+        Check.wrong(COURT + blanks + " ".repeat(40), 500, 1);
+        Check.wrong(COURT + blanks + "judge 0;", 500, 1);
+        Check.wrong(" ".repeat(501), 500, 1);
+        Check.right(" ".repeat(500), 0);
         // 'judge' from 490 on; its number begins ahead of 500 and is read whole.
-        String ahead = COURT + times(" ", 490 - COURT.length());
-        wrong(ahead + "judge    99;", 500, 1);
-        wrong(ahead + "judge    999;", 499, 2);
-        wrong(ahead + "judge    99999;", 499, 1);
-        wrong(ahead + "judge    9x;", 499, 1);
-        wrong(ahead + "judge     0;", 500, 1);
-        wrong(ahead + "judge     ", 500, 1);
-        right(ahead + "judge  99;", 2);
-        wrong(ahead + "judge   99;", 500, 1);
-        wrong(ahead + "judge", 495, 1);
-        wrong(times("a", 540), 0, 1);
-        wrong(times(" ", 499) + times("7", 41), 499, 1);
+        String ahead = COURT + " ".repeat(490 - COURT.length());
+        Check.wrong(ahead + "judge    99;", 500, 1);
+        Check.wrong(ahead + "judge    999;", 499, 2);
+        Check.wrong(ahead + "judge    99999;", 499, 1);
+        Check.wrong(ahead + "judge    9x;", 499, 1);
+        Check.wrong(ahead + "judge     0;", 500, 1);
+        Check.wrong(ahead + "judge     ", 500, 1);
+        Check.right(ahead + "judge  99;", 2);
+        Check.wrong(ahead + "judge   99;", 500, 1);
+        Check.wrong(ahead + "judge", 495, 1);
+        Check.wrong("a".repeat(540), 0, 1);
+        Check.wrong(" ".repeat(499) + "7".repeat(41), 499, 1);
     }
 
     /** Bytes that end() took away are not read, though they stood there. */
@@ -271,7 +213,7 @@ public final class PromiseTest {
     }
 
     private static void promise4AnotherText() {
-        BenchComposer x = Check.court(COURT + "senior 50;judge 60;judge 60;judge 60;case 1 not 0;case 2 not 1;");
+        BenchComposer x = Courts.of(COURT + "senior 50;judge 60;judge 60;judge 60;case 1 not 0;case 2 not 1;");
         due("another TEXT", Check.tell(x, COURT + "judge 1;judge 2;judge 3;case 4;"), 5);
         due("its own SENIORITY asked for", x.lawful(0), 1);
         due("its own BARRED", x.of(0, 1), 0);
@@ -285,24 +227,24 @@ public final class PromiseTest {
     }
 
     private static void promise4Counts() {
-        String nine = COURT + times("judge 5;", 9);
-        right(nine, 10);
-        wrong(nine + "judge 5;", 88, 3);
-        wrong(nine + "judge 0;", 88, 3);
-        wrong(nine + "  judge", 90, 3);
-        right(nine + "case 1 not 0 1 2 3 4 5 6 7 8;", 11);
-        wrong(nine + "case 1 not 0 1 2 3 4 5 6 7 8 0;", 117, 4);
-        wrong(nine + "case 1 not 0 1 2 3 4 5 6 7 8 9;", 117, 4);
-        String fourteen = COURT + times("case 5;", 14);
-        right(fourteen, 15);
-        wrong(fourteen + "case 5;", 114, 3);
-        wrong(fourteen + "case", 114, 3);
-        wrong(COURT + "senior 5;senior 5;", 25, 3);
-        wrong(COURT + "senior 5;senior 0;", 25, 3);
+        String nine = COURT + "judge 5;".repeat(9);
+        Check.right(nine, 10);
+        Check.wrong(nine + "judge 5;", 88, 3);
+        Check.wrong(nine + "judge 0;", 88, 3);
+        Check.wrong(nine + "  judge", 90, 3);
+        Check.right(nine + "case 1 not 0 1 2 3 4 5 6 7 8;", 11);
+        Check.wrong(nine + "case 1 not 0 1 2 3 4 5 6 7 8 0;", 117, 4);
+        Check.wrong(nine + "case 1 not 0 1 2 3 4 5 6 7 8 9;", 117, 4);
+        String fourteen = COURT + "case 5;".repeat(14);
+        Check.right(fourteen, 15);
+        Check.wrong(fourteen + "case 5;", 114, 3);
+        Check.wrong(fourteen + "case", 114, 3);
+        Check.wrong(COURT + "senior 5;senior 5;", 25, 3);
+        Check.wrong(COURT + "senior 5;senior 0;", 25, 3);
     }
 
     private static void promise4Effects() {
-        BenchComposer x = threeDrawn(1);
+        BenchComposer x = Courts.threeDrawn(1);
         x.leave(0);
         int undone = x.now(5);
         int seed = x.now(2);
@@ -316,7 +258,7 @@ public final class PromiseTest {
         due("BARRED stays", x.of(1, 1), 3);
         due("anew stays", x.anew(0), 7);
 
-        due("the same TEXT again", Check.tell(x, fiveJudges(1)), 10);
+        due("the same TEXT again", Check.tell(x, Courts.fiveJudges(1)), 10);
         due("OPEN", x.now(3), 0);
         due("nobody AWAY", x.judge(0, 1), 0);
         due("SEED as told", x.now(2), 5);
@@ -350,7 +292,7 @@ public final class PromiseTest {
     }
 
     private static void promise6Now() {
-        BenchComposer x = threeDrawn(1);
+        BenchComposer x = Courts.threeDrawn(1);
         x.hear(1);
         x.feed(0, 0, 0, 0, 0);
         int seed = 5;
@@ -368,7 +310,7 @@ public final class PromiseTest {
     }
 
     private static void promise7Judge() {
-        BenchComposer x = threeDrawn(1);
+        BenchComposer x = Courts.threeDrawn(1);
         x.hear(0);
         x.leave(4);
         // Without case 1, whose bench lost judge 4 and can have none more.
@@ -395,7 +337,7 @@ public final class PromiseTest {
     }
 
     private static void promise8Of() {
-        BenchComposer x = threeDrawn(1);
+        BenchComposer x = Courts.threeDrawn(1);
         x.hear(2);
         int[][] want = {{6, 24, 1, 7, 1}, {2, 3, 1, 28, 2}, {9, 17, 2, 14, 1}, {1, 0, 0, 0, -1}};
         for (int one = 0; one < 4; one++) {
@@ -414,7 +356,7 @@ public final class PromiseTest {
     }
 
     private static void promise9Pair() {
-        BenchComposer x = threeDrawn(1);
+        BenchComposer x = Courts.threeDrawn(1);
         x.hear(0);
         int[][] want = {{-1, 1, 1, 0, 0}, {1, -1, 2, 1, 0}, {1, 2, -1, 2, 1}, {0, 1, 2, -1, 1},
             {0, 0, 1, 1, -1}};
@@ -431,7 +373,7 @@ public final class PromiseTest {
     }
 
     private static void promise10Spread() {
-        BenchComposer x = threeDrawn(1);
+        BenchComposer x = Courts.threeDrawn(1);
         due("spread(0)", x.spread(0), 2);
         due("spread(1)", x.spread(1), 21);
         x.leave(4);
@@ -439,19 +381,19 @@ public final class PromiseTest {
         due("spread(2)", x.spread(2), -1);
         due("spread(-1)", x.spread(-1), -1);
         // Three judges, one bench: every PAIR is 1.
-        BenchComposer three = Check.court(COURT + "judge 1;judge 2;judge 3;case 4;");
+        BenchComposer three = Courts.of(COURT + "judge 1;judge 2;judge 3;case 4;");
         due("spread(0), nothing drawn", three.spread(0), 0);
         three.draw(0);
         due("spread(0), all pairs alike", three.spread(0), 0);
         due("spread(1), CHAIR", three.spread(1), 1);
-        due("one judge", Check.court(COURT + "judge 1;").spread(0), -1);
-        due("one judge", Check.court(COURT + "judge 1;").spread(1), -1);
-        due("two judges", Check.court(COURT + "judge 1;judge 1;").spread(0), 0);
-        due("two judges", Check.court(COURT + "judge 1;judge 1;").spread(1), 0);
+        due("one judge", Courts.of(COURT + "judge 1;").spread(0), -1);
+        due("one judge", Courts.of(COURT + "judge 1;").spread(1), -1);
+        due("two judges", Courts.of(COURT + "judge 1;judge 1;").spread(0), 0);
+        due("two judges", Courts.of(COURT + "judge 1;judge 1;").spread(1), 0);
     }
 
     private static void promises11To13Lawful() {
-        BenchComposer x = Check.court(COURT
+        BenchComposer x = Courts.of(COURT
                 + "judge 10;judge 40;senior 30;judge 30;judge 20;judge 29;case 1;case 2 not 1;case 3 not 1 2;");
         // Seniors: 1 and 2; 0 3 4 alone is not lawful.
         dueBenches(x, 0, 7, 11, 19, 13, 21, 14, 22, 26, 28);
@@ -474,10 +416,10 @@ public final class PromiseTest {
             due("bench(" + one + ", 0)", x.bench(one, 0), -1);
             due("rank(" + one + ", 7)", x.rank(one, 7), -1);
         }
-        dueBenches(Check.court(COURT + times("judge 1;", 5) + "case 1;"), 0, OF_FIVE);
-        due("nine judges", Check.court(COURT + times("judge 1;", 9) + "case 1;").lawful(0), 84);
-        due("the last of nine", Check.court(COURT + times("judge 1;", 9) + "case 1;").bench(0, 83), 448);
-        due("two judges", Check.court(COURT + times("judge 1;", 2) + "case 1;").lawful(0), 0);
+        dueBenches(Courts.like(5, 1), 0, OF_FIVE);
+        due("nine judges", Courts.like(9, 1).lawful(0), 84);
+        due("the last of nine", Courts.like(9, 1).bench(0, 83), 448);
+        due("two judges", Courts.like(2, 1).lawful(0), 0);
     }
 
     private static void dueBenches(BenchComposer x, int one, int... benches) {
@@ -493,7 +435,7 @@ public final class PromiseTest {
     }
 
     private static void promise14Tension() {
-        BenchComposer x = threeDrawn(1);
+        BenchComposer x = Courts.threeDrawn(1);
         int[] want = {158, 124, 95, 120, 91, 59, 175, 144, 112, 110};
         for (int i = 0; i < want.length; i++) {
             due("tension(3, " + OF_FIVE[i] + ")", x.tension(3, OF_FIVE[i]), want[i]);
@@ -517,12 +459,12 @@ public final class PromiseTest {
         // Tensions of case 3 from the least on: 59, 91, 95, 110, 112, 120, 124, 144, 158, 175.
         int[] sorted = {59, 91, 95, 110, 112, 120, 124, 144, 158, 175};
         for (int unsure = 1; unsure <= 20; unsure++) {
-            BenchComposer x = threeDrawn(unsure);
+            BenchComposer x = Courts.threeDrawn(unsure);
             int n = Math.min(unsure, 10);
             due("pool(3), UNSURE " + unsure, x.pool(3), n);
             due("worst(3), UNSURE " + unsure, x.worst(3), sorted[n - 1]);
         }
-        BenchComposer x = threeDrawn(3);
+        BenchComposer x = Courts.threeDrawn(3);
         // 0 3 4, 0 2 4, 0 1 4.
         int[] with = {3, 1, 1, 1, 3};
         for (int judge = 0; judge < 5; judge++) {
@@ -539,7 +481,7 @@ public final class PromiseTest {
             due("worst(" + one + ")", x.worst(one), -1);
         }
         // All of one tension come together, though fewer are asked for.
-        BenchComposer like = Check.court("court 1 2 1 1 1;" + times("judge 1;", 5) + "case 1;case 1 not 0 1 2;");
+        BenchComposer like = Courts.of("court 1 2 1 1 1;" + "judge 1;".repeat(5) + "case 1;case 1 not 0 1 2;");
         due("all alike", like.pool(0), 10);
         due("worst of them", like.worst(0), 0);
         due("an empty pool", like.pool(1), 0);
@@ -550,8 +492,8 @@ public final class PromiseTest {
     private static void promise18Draw() {
         int[] seeds = {0, 1, 7, 4711, 9999};
         for (int told : seeds) {
-            BenchComposer x = Check.court("court " + told + " 20 0 0 0;" + times("judge 1;", 5)
-                    + times("case 3;", 6) + "case 1 not 0 1 2;");
+            BenchComposer x = Courts.of("court " + told + " 20 0 0 0;" + "judge 1;".repeat(5)
+                    + "case 3;".repeat(6) + "case 1 not 0 1 2;");
             int seed = told;
             for (int one = 0; one < 6; one++) {
                 seed = seed * 1103515245 + 12345;
@@ -567,10 +509,10 @@ public final class PromiseTest {
             due("HEARD", x.draw(0), -1);
         }
         // In order of benches, not of tension.
-        BenchComposer x = threeDrawn(20);
+        BenchComposer x = Courts.threeDrawn(20);
         int seed = x.now(2) * 1103515245 + 12345;
         due("draw(3)", x.draw(3), OF_FIVE[(seed >>> 8) % 10]);
-        due("the least tense one", threeDrawn(1).draw(3), 25);
+        due("the least tense one", Courts.threeDrawn(1).draw(3), 25);
         int[] strange = {-1, 4, MIN, MAX};
         for (int one : strange) {
             due("draw(" + one + ")", x.draw(one), -1);
@@ -580,8 +522,8 @@ public final class PromiseTest {
     private static void promise19DrawAll() {
         String text = "court 77 3 2 1 1;judge 9;judge 8;judge 7;judge 6;judge 5;judge 4;senior 8;"
                 + "case 3;case 1 not 0 1;case 4;case 5 not 2;";
-        BenchComposer all = Check.court(text);
-        BenchComposer each = Check.court(text);
+        BenchComposer all = Courts.of(text);
+        BenchComposer each = Courts.of(text);
         due("draw(2)", all.draw(2), each.draw(2));
         due("drawAll()", all.drawAll(), 2);
         int[] rest = {0, 3};
@@ -593,13 +535,13 @@ public final class PromiseTest {
         due("one more can be undone", all.now(5), 2);
         due("drawAll() again", all.drawAll(), 0);
         due("that can't be undone", all.now(5), 2);
-        BenchComposer single = Check.court(COURT + times("judge 1;", 3) + "case 1;");
+        BenchComposer single = Courts.like(3, 1);
         due("one alone", single.drawAll(), 1);
         due("it can be undone", single.now(5), 1);
     }
 
     private static void promise20Recuse() {
-        BenchComposer x = threeDrawn(1);
+        BenchComposer x = Courts.threeDrawn(1);
         due("draw(3)", x.draw(3), 25);
         due("who comes: 0 1 3 has 124, 0 2 3 has 120", x.recuse(3, 4), 2);
         due("the bench", x.of(3, 3), 13);
@@ -623,20 +565,20 @@ public final class PromiseTest {
             due("recuse(" + one + ", 0)", x.recuse(one, 0), -1);
         }
         // Of like ones the least comes; the bench needs a senior; nobody AWAY comes.
-        BenchComposer like = drawnAs("case 1;", 28);
+        BenchComposer like = Courts.drawnAs("case 1;", 28);
         due("the least of like ones", like.recuse(0, 3), 0);
         due("who went can't come back", like.recuse(0, 2), 1);
-        BenchComposer away = drawnAs("case 1;", 28);
+        BenchComposer away = Courts.drawnAs("case 1;", 28);
         away.leave(0);
         due("nobody AWAY comes", away.recuse(0, 3), 1);
-        BenchComposer senior = Check.court("court 3 1 0 0 0;judge 1;judge 1;judge 1;judge 9;judge 9;"
+        BenchComposer senior = Courts.of("court 3 1 0 0 0;judge 1;judge 1;judge 1;judge 9;judge 9;"
                 + "senior 9;case 1 not 0 4;");
         due("draw(0)", senior.draw(0), 14);
         due("no senior could come", senior.recuse(0, 3), -2);
     }
 
     private static void promise21Leave() {
-        BenchComposer x = threeDrawn(1);
+        BenchComposer x = Courts.threeDrawn(1);
         due("draw(3)", x.draw(3), 25);
         // Case 0 becomes OPEN first; without it 1 3 4 has 82 and 2 3 4 has 92.
         due("leave(0)", x.leave(0), 1);
@@ -658,7 +600,7 @@ public final class PromiseTest {
     }
 
     private static void promise22Come() {
-        BenchComposer x = threeDrawn(1);
+        BenchComposer x = Courts.threeDrawn(1);
         due("not AWAY", x.come(0), -1);
         x.leave(0);
         x.leave(4);
@@ -676,7 +618,7 @@ public final class PromiseTest {
     }
 
     private static void promise23Hear() {
-        BenchComposer x = threeDrawn(1);
+        BenchComposer x = Courts.threeDrawn(1);
         due("OPEN", x.hear(3), -1);
         due("hear(1)", x.hear(1), 1);
         due("hear(0)", x.hear(0), 2);
@@ -693,7 +635,7 @@ public final class PromiseTest {
     }
 
     private static void promise24Evenness() {
-        BenchComposer x = Check.court(fiveJudges(1));
+        BenchComposer x = Courts.of(Courts.fiveJudges(1));
         due("nothing drawn", x.evenness(), 0);
         x.draw(0);
         due("one bench", x.evenness(), 3);
@@ -716,11 +658,11 @@ public final class PromiseTest {
     }
 
     private static void promise25Better() {
-        dueBetter(drawnAs("case 1;case 1;case 1;", 7, 7, 28), 0, 0, 2, 3, 2);
-        dueBetter(drawnAs("case 1;case 1;", 7, 11), -1, -1, -1, -1, -1);
+        dueBetter(Courts.drawnAs("case 1;case 1;case 1;", 7, 7, 28), 0, 0, 2, 3, 2);
+        dueBetter(Courts.drawnAs("case 1;case 1;", 7, 11), -1, -1, -1, -1, -1);
         // Judge 3 is barred from case 0, so judge 4 comes there.
-        dueBetter(drawnAs("case 1 not 3;case 1;case 1;", 7, 7, 28), 0, 0, 2, 4, 2);
-        BenchComposer x = drawnAs("case 1;case 1;case 1;", 7, 7, 28);
+        dueBetter(Courts.drawnAs("case 1 not 3;case 1;case 1;", 7, 7, 28), 0, 0, 2, 4, 2);
+        BenchComposer x = Courts.drawnAs("case 1;case 1;case 1;", 7, 7, 28);
         x.hear(0);
         dueBetter(x, 1, 0, 2, 3, 2);
         x.hear(2);
@@ -729,7 +671,7 @@ public final class PromiseTest {
     }
 
     private static void promise26Exchange() {
-        BenchComposer x = drawnAs("case 1 not 3;case 4;case 2;", 7, 7, 28);
+        BenchComposer x = Courts.drawnAs("case 1 not 3;case 4;case 2;", 7, 7, 28);
         due("barred", x.exchange(0, 0, 2, 3), -1);
         due("x on both", x.exchange(0, 2, 2, 3), -1);
         due("y on both", x.exchange(2, 3, 1, 2), -1);
@@ -763,7 +705,7 @@ public final class PromiseTest {
     }
 
     private static void promise26Senior() {
-        BenchComposer x = drawnAs("judge 9;judge 1;judge 1;judge 9;judge 1;senior 9;", "case 1;case 1;", 7, 28);
+        BenchComposer x = Courts.drawnAs("judge 9;judge 1;judge 1;judge 9;judge 1;senior 9;", "case 1;case 1;", 7, 28);
         due("no senior on a", x.exchange(0, 0, 1, 4), -1);
         due("no senior on b", x.exchange(0, 1, 1, 3), -1);
         due("nor the other way round", x.exchange(1, 3, 0, 1), -1);
@@ -773,7 +715,7 @@ public final class PromiseTest {
     }
 
     private static void promise27Smooth() {
-        BenchComposer x = drawnAs("case 1;case 1;case 1;", 7, 7, 28);
+        BenchComposer x = Courts.drawnAs("case 1;case 1;case 1;", 7, 7, 28);
         due("smooth()", x.smooth(), 1);
         due("evenness()", x.evenness(), 13);
         due("case 0", x.of(0, 3), 14);
@@ -788,7 +730,7 @@ public final class PromiseTest {
     }
 
     private static void promises28And29Anew() {
-        BenchComposer x = drawnAs("case 1;case 1;case 1;", 7, 7, 28);
+        BenchComposer x = Courts.drawnAs("case 1;case 1;case 1;", 7, 7, 28);
         due("anew(0)", x.anew(0), 7);
         due("anew(1)", x.anew(1), 7);
         due("anew(2)", x.anew(2), 28);
@@ -807,20 +749,20 @@ public final class PromiseTest {
             due("anew(" + one + ")", x.anew(one), -1);
         }
         // Neither who is AWAY nor who was RECUSED matters.
-        BenchComposer moved = threeDrawn(1);
+        BenchComposer moved = Courts.threeDrawn(1);
         moved.draw(3);
         due("same()", moved.same(), 4);
         moved.recuse(3, 4);
         moved.leave(0);
         due("anew(3)", moved.anew(3), 25);
         due("same() without cases 0 and 3", moved.same(), 2);
-        BenchComposer none = Check.court(COURT + "judge 1;judge 2;case 1;case 2;");
+        BenchComposer none = Courts.of(COURT + "judge 1;judge 2;case 1;case 2;");
         due("none of both", none.same(), 2);
         due("anew(0), OPEN", none.anew(0), 0);
     }
 
     private static void promise30Undo() {
-        BenchComposer x = threeDrawn(1);
+        BenchComposer x = Courts.threeDrawn(1);
         int seed = x.now(2);
         due("draw(3)", x.draw(3), 25);
         x.recuse(3, 4);
@@ -847,7 +789,7 @@ public final class PromiseTest {
     }
 
     private static void promise30Most() {
-        BenchComposer x = Check.court(COURT + times("judge 1;", 5) + "case 1;");
+        BenchComposer x = Courts.like(5, 1);
         x.leave(4);
         x.leave(3);
         for (int i = 0; i < 5; i++) {
@@ -865,7 +807,7 @@ public final class PromiseTest {
         due("one can be", x.now(5), 1);
         due("undo()", x.undo(), 0);
         due("judge 2 is there", x.judge(2, 1), 0);
-        BenchComposer all = Check.court(COURT + times("judge 1;", 5) + times("case 1;", 5));
+        BenchComposer all = Courts.like(5, 5);
         all.drawAll();
         due("drawAll() is one", all.undo(), 0);
         due("SEED", all.now(2), 1);
