@@ -5,87 +5,29 @@ final class BenchEdges {
     private static final int MIN = Integer.MIN_VALUE;
     private static final int MAX = Integer.MAX_VALUE;
 
-    /** No judge and no case of the court of five judges and four cases. */
-    private static final int[] NO_SUCH = {-1, 5, 9, 14, 15, 31, 32, 33, 64, MIN, MIN + 1, MAX};
+    private static final int[] NO_SUCH = Courts.NO_SUCH;
     /** No bench of five judges: none, too few, too many, a judge not told. */
-    private static final int[] NO_BENCH = {0, 1, 3, 16, 24, 15, 30, 31, 35, 67, 448, 1 << 31 | 3, 7 << 29, -1, MIN, MAX};
+    private static final int[] NO_BENCH = {0, 1, 3, 16, 24, 15, 30, 31, 35, 67, 448, 1 << 31 | 3, 7 << 29, -1, MIN,
+        MAX};
+
+    static final Runnable[] ALL = {
+        BenchEdges::threeAsBits, BenchEdges::inOrder, BenchEdges::nobodyBarred, BenchEdges::nobodyAway,
+        BenchEdges::somebodySenior, BenchEdges::presides, BenchEdges::presidesOfLikeOnes,
+        BenchEdges::stages, BenchEdges::pairOfTwo, BenchEdges::loadOfWeights, BenchEdges::loadOfChairs,
+        BenchEdges::tensionOfPairs, BenchEdges::tensionOfLoads, BenchEdges::withoutItsOwn,
+        BenchEdges::leastTension, BenchEdges::fewerThanUnsure, BenchEdges::noOthers,
+        BenchEdges::nowTells, BenchEdges::nowAnotherWhat, BenchEdges::judgeTells, BenchEdges::noSuchJudge,
+        BenchEdges::judgeAnotherWhat, BenchEdges::caseTells, BenchEdges::caseWithoutBench, BenchEdges::noSuchCase,
+        BenchEdges::caseAnotherWhat, BenchEdges::pairTells, BenchEdges::noTwoJudges, BenchEdges::spreadOfPairs,
+        BenchEdges::spreadOfLoads, BenchEdges::spreadAnotherWhat, BenchEdges::fewerThanTwo,
+        BenchEdges::lawfulTells, BenchEdges::lawfulNoCase, BenchEdges::benchTells, BenchEdges::benchNoneSuch,
+        BenchEdges::rankTells, BenchEdges::rankNotOne, BenchEdges::tensionTells, BenchEdges::tensionNoCase,
+        BenchEdges::tensionNoBench,
+        BenchEdges::poolTells, BenchEdges::poolNoCase, BenchEdges::chancesTell, BenchEdges::chancesNoSuch,
+        BenchEdges::worstTells, BenchEdges::worstOfNone, BenchEdges::worstNoCase
+    };
 
     private BenchEdges() {
-    }
-
-    static void all() {
-        benches();
-        counts();
-        pools();
-        promises6To10();
-        promises11To14();
-        promises15To17();
-    }
-
-    private static void benches() {
-        threeAsBits();
-        inOrder();
-        nobodyBarred();
-        nobodyAway();
-        somebodySenior();
-        presides();
-        presidesOfLikeOnes();
-    }
-
-    private static void counts() {
-        stages();
-        pairOfTwo();
-        loadOfWeights();
-        loadOfChairs();
-        tensionOfPairs();
-        tensionOfLoads();
-        withoutItsOwn();
-    }
-
-    private static void pools() {
-        leastTension();
-        fewerThanUnsure();
-        noOthers();
-    }
-
-    private static void promises6To10() {
-        nowTells();
-        nowAnotherWhat();
-        judgeTells();
-        noSuchJudge();
-        judgeAnotherWhat();
-        caseTells();
-        caseWithoutBench();
-        noSuchCase();
-        caseAnotherWhat();
-        pairTells();
-        noTwoJudges();
-        spreadOfPairs();
-        spreadOfLoads();
-        spreadAnotherWhat();
-        fewerThanTwo();
-    }
-
-    private static void promises11To14() {
-        lawfulTells();
-        lawfulNoCase();
-        benchTells();
-        benchNoneSuch();
-        rankTells();
-        rankNotOne();
-        tensionTells();
-        tensionNoCase();
-        tensionNoBench();
-    }
-
-    private static void promises15To17() {
-        poolTells();
-        poolNoCase();
-        chancesTell();
-        chancesNoSuch();
-        worstTells();
-        worstOfNone();
-        worstNoCase();
     }
 
     private static void due(String what, long got, long want) {
@@ -295,16 +237,9 @@ final class BenchEdges {
 
     // terms: pools
 
-    /** Case 0 has 0 1 2: for case 1 three benches have TENSION 0, six have 1, and 0 1 2 has 3. */
-    private static BenchComposer threeSixOne(int unsure) {
-        BenchComposer x = Courts.of("court 1 " + unsure + " 1 0 0;" + "judge 1;".repeat(5) + "case 1 not 3 4;case 1;");
-        due("draw(0)", x.draw(0), 7);
-        return x;
-    }
-
     private static void leastTension() {
         Doc.says(TERMS, "POOL of a case: of the BENCHES that are LAWFUL for it those of the least TENSION;");
-        BenchComposer x = threeSixOne(1);
+        BenchComposer x = Courts.threeSixOne(1);
         due("all of the least, though more than UNSURE", x.pool(1), 3);
         due("their TENSION", x.worst(1), 0);
         due("the LAWFUL one alone", x.pool(0), 1);
@@ -317,18 +252,18 @@ final class BenchEdges {
     private static void fewerThanUnsure() {
         Doc.says(TERMS, "as long as these are fewer than UNSURE");
         for (int unsure = 1; unsure <= 9; unsure++) {
-            due("pool(1), UNSURE " + unsure, threeSixOne(unsure).pool(1), unsure <= 3 ? 3 : 9);
-            due("worst(1), UNSURE " + unsure, threeSixOne(unsure).worst(1), unsure <= 3 ? 0 : 1);
+            due("pool(1), UNSURE " + unsure, Courts.threeSixOne(unsure).pool(1), unsure <= 3 ? 3 : 9);
+            due("worst(1), UNSURE " + unsure, Courts.threeSixOne(unsure).worst(1), unsure <= 3 ? 0 : 1);
         }
-        due("pool(1), UNSURE 10", threeSixOne(10).pool(1), 10);
-        due("worst(1), UNSURE 10", threeSixOne(10).worst(1), 3);
+        due("pool(1), UNSURE 10", Courts.threeSixOne(10).pool(1), 10);
+        due("worst(1), UNSURE 10", Courts.threeSixOne(10).worst(1), 3);
     }
 
     private static void noOthers() {
         Doc.says(TERMS, "and there are others, those of the next one, too.");
         for (int unsure = 10; unsure <= 20; unsure++) {
-            due("pool(1), UNSURE " + unsure, threeSixOne(unsure).pool(1), 10);
-            due("pool(0), UNSURE " + unsure, threeSixOne(unsure).pool(0), 1);
+            due("pool(1), UNSURE " + unsure, Courts.threeSixOne(unsure).pool(1), 10);
+            due("pool(0), UNSURE " + unsure, Courts.threeSixOne(unsure).pool(0), 1);
         }
         BenchComposer none = Courts.of("court 1 20 1 1 1;judge 1;judge 1;case 1;");
         due("none at all", none.pool(0), 0);
@@ -499,6 +434,9 @@ final class BenchEdges {
         Doc.says("Promise 10", "The greatest less the least: of all PAIRS (what 0),");
         due("nothing drawn", Courts.of(Courts.fiveJudges(1)).spread(0), 0);
         due("2 and 0", Courts.threeDrawn(1).spread(0), 2);
+        BenchComposer first = Courts.of(COURT + "judge 1;".repeat(9) + "case 1 not 3 4 5 6 7 8;".repeat(2));
+        first.drawAll();
+        due("of the first judges, too", first.spread(0), 2);
         BenchComposer x = Courts.like(3, 14);
         x.drawAll();
         due("14 and 14", x.spread(0), 0);
@@ -522,6 +460,12 @@ final class BenchEdges {
         BenchComposer three = Courts.of("court 1 1 1 1 0;" + "judge 1;".repeat(3) + "case 9;");
         three.draw(0);
         due("9 and 9", three.spread(1), 0);
+        BenchComposer first = Courts.of("court 1 1 1 1 0;" + "judge 1;".repeat(4) + "case 9 not 0;case 9;");
+        first.draw(0);
+        due("judge 0 has the least", first.spread(1), 9);
+        BenchComposer chair = Courts.of("court 1 1 1 1 7;" + "judge 1;".repeat(3) + "case 9;");
+        chair.draw(0);
+        due("judge 0 has the greatest", chair.spread(1), 7);
     }
 
     private static void spreadAnotherWhat() {
@@ -661,9 +605,9 @@ final class BenchEdges {
 
     private static void poolTells() {
         Doc.says("Promise 15", "POOL of a case, how many;");
-        due("OPEN", threeSixOne(4).pool(1), 9);
-        due("SET", threeSixOne(4).pool(0), 1);
-        BenchComposer x = threeSixOne(4);
+        due("OPEN", Courts.threeSixOne(4).pool(1), 9);
+        due("SET", Courts.threeSixOne(4).pool(0), 1);
+        BenchComposer x = Courts.threeSixOne(4);
         x.draw(1);
         due("SET, without its own bench", x.pool(1), 9);
         x.hear(1);
@@ -687,16 +631,22 @@ final class BenchEdges {
         int[][] want = {{1, 1, 1, 3, 3}, {5, 5, 5, 6, 6}, {6, 6, 6, 6, 6}};
         int[] unsure = {3, 9, 10};
         for (int i = 0; i < 3; i++) {
-            BenchComposer x = threeSixOne(unsure[i]);
+            BenchComposer x = Courts.threeSixOne(unsure[i]);
             for (int judge = 0; judge < 5; judge++) {
                 due("chances(1, " + judge + "), UNSURE " + unsure[i], x.chances(1, judge), want[i][judge]);
             }
         }
-        BenchComposer x = threeSixOne(3);
+        BenchComposer x = Courts.threeSixOne(3);
         due("BARRED", x.chances(0, 4), 0);
         x.leave(4);
         due("AWAY", x.chances(1, 4), 0);
         due("none LAWFUL", Courts.like(2, 1).chances(0, 0), 0);
+        BenchComposer nine = Courts.of(COURT + "judge 1;".repeat(9) + "case 1;case 1 not 0 1 2;");
+        for (int judge = 0; judge < 9; judge++) {
+            due("chances(0, " + judge + ") of 84", nine.chances(0, judge), 28);
+            // Of the 20 benches of six; the 84 were listed ahead of them.
+            due("chances(1, " + judge + ") of 20", nine.chances(1, judge), judge < 3 ? 0 : 10);
+        }
     }
 
     private static void chancesNoSuch() {
@@ -713,16 +663,16 @@ final class BenchEdges {
 
     private static void worstTells() {
         Doc.says("Promise 17", "The greatest TENSION in POOL;");
-        due("of the least alone", threeSixOne(3).worst(1), 0);
-        due("of the next one", threeSixOne(4).worst(1), 1);
-        due("of all", threeSixOne(20).worst(1), 3);
+        due("of the least alone", Courts.threeSixOne(3).worst(1), 0);
+        due("of the next one", Courts.threeSixOne(4).worst(1), 1);
+        due("of all", Courts.threeSixOne(20).worst(1), 3);
         due("of a SET case, without its own bench", Courts.threeDrawn(1).worst(2), 76);
     }
 
     private static void worstOfNone() {
         Doc.says("Promise 17", "NONE: it has none,");
         due("two judges", Courts.like(2, 1).worst(0), -1);
-        BenchComposer x = threeSixOne(3);
+        BenchComposer x = Courts.threeSixOne(3);
         x.leave(0);
         due("one of three AWAY", x.worst(0), -1);
         due("others can", x.worst(1), 0);

@@ -7,113 +7,33 @@ final class ChangeEdges {
     private static final int MIN = Integer.MIN_VALUE;
     private static final int MAX = Integer.MAX_VALUE;
 
-    /** No judge and no case of the court of five judges and four cases. */
-    private static final int[] NO_SUCH = {-1, 5, 9, 14, 15, 31, 32, 33, 64, MIN, MIN + 1, MAX};
+    private static final int[] NO_SUCH = Courts.NO_SUCH;
+
+    static final Runnable[] ALL = {
+        ChangeEdges::seedWraps, ChangeEdges::placeInPool,
+        ChangeEdges::leastTenseComes, ChangeEdges::leastOfLikeOnesComes, ChangeEdges::noneComes,
+        ChangeEdges::recusedIsBarred, ChangeEdges::recusedIsRepaired, ChangeEdges::awayIsRepaired,
+        ChangeEdges::byNumbers,
+        ChangeEdges::judgeOfA, ChangeEdges::notOnB, ChangeEdges::judgeOfB, ChangeEdges::lawfulThen,
+        ChangeEdges::eachTimesItself, ChangeEdges::firstExchange, ChangeEdges::evennessIsLess,
+        ChangeEdges::drawnAnew, ChangeEdges::withoutLawfulStaysOpen, ChangeEdges::nothingElseDone,
+        ChangeEdges::newTextOpen, ChangeEdges::newTextNobodyAway, ChangeEdges::newTextSeed,
+        ChangeEdges::newTextNothingUndone, ChangeEdges::throwsChangesNothing, ChangeEdges::at512Calls,
+        ChangeEdges::drawTells, ChangeEdges::drawNotOpen, ChangeEdges::drawNotLawful, ChangeEdges::drawAllByNumbers,
+        ChangeEdges::drawAllButSome, ChangeEdges::drawAllTells,
+        ChangeEdges::recuseTells, ChangeEdges::recuseOpenThen, ChangeEdges::recuseNoSuch,
+        ChangeEdges::recuseNotOnBench, ChangeEdges::leaveTells, ChangeEdges::leaveNoSuch, ChangeEdges::leaveAway,
+        ChangeEdges::comeTells, ChangeEdges::comeNoSuch, ChangeEdges::comeNotAway, ChangeEdges::hearTells,
+        ChangeEdges::hearNoSuch,
+        ChangeEdges::evennessTells, ChangeEdges::betterTells, ChangeEdges::betterNone, ChangeEdges::betterAnotherWhat,
+        ChangeEdges::exchangeTells, ChangeEdges::exchangeNoSuch, ChangeEdges::exchangeNotLawful,
+        ChangeEdges::smoothTillNone, ChangeEdges::smoothAtMost40, ChangeEdges::smoothNotOnce,
+        ChangeEdges::sameTells, ChangeEdges::sameNoneOfBoth, ChangeEdges::anewTells, ChangeEdges::anewNoSuch,
+        ChangeEdges::undoEach, ChangeEdges::undoNotOfNone, ChangeEdges::undoDrawAllOfNone, ChangeEdges::undoSeed,
+        ChangeEdges::undoTells, ChangeEdges::undoTenAtMost, ChangeEdges::undoTenBehindRefused, ChangeEdges::undoNone
+    };
 
     private ChangeEdges() {
-    }
-
-    static void all() {
-        draws();
-        repairs();
-        exchanges();
-        texts();
-        promises18And19();
-        promises20To23();
-        promises24To27();
-        promises28And29();
-        promise30();
-    }
-
-    private static void draws() {
-        seedWraps();
-        placeInPool();
-    }
-
-    private static void repairs() {
-        leastTenseComes();
-        leastOfLikeOnesComes();
-        noneComes();
-        recusedIsBarred();
-        recusedIsRepaired();
-        awayIsRepaired();
-        byNumbers();
-    }
-
-    private static void exchanges() {
-        judgeOfA();
-        notOnB();
-        judgeOfB();
-        lawfulThen();
-        eachTimesItself();
-        firstExchange();
-        evennessIsLess();
-    }
-
-    private static void texts() {
-        drawnAnew();
-        withoutLawfulStaysOpen();
-        nothingElseDone();
-        newTextOpen();
-        newTextNobodyAway();
-        newTextSeed();
-        newTextNothingUndone();
-        throwsChangesNothing();
-        at512Calls();
-    }
-
-    private static void promises18And19() {
-        drawTells();
-        drawNotOpen();
-        drawNotLawful();
-        drawAllByNumbers();
-        drawAllButSome();
-        drawAllTells();
-    }
-
-    private static void promises20To23() {
-        recuseTells();
-        recuseOpenThen();
-        recuseNoSuch();
-        recuseNotOnBench();
-        leaveTells();
-        leaveNoSuch();
-        leaveAway();
-        comeTells();
-        comeNoSuch();
-        comeNotAway();
-        hearTells();
-        hearNoSuch();
-    }
-
-    private static void promises24To27() {
-        evennessTells();
-        betterTells();
-        betterNone();
-        betterAnotherWhat();
-        exchangeTells();
-        exchangeNoSuch();
-        exchangeNotLawful();
-        smoothTillNone();
-        smoothAtMost40();
-        smoothNotOnce();
-    }
-
-    private static void promises28And29() {
-        sameTells();
-        sameNoneOfBoth();
-        anewTells();
-        anewNoSuch();
-    }
-
-    private static void promise30() {
-        undoEach();
-        undoNotOfNone();
-        undoDrawAllOfNone();
-        undoSeed();
-        undoTells();
-        undoTenAtMost();
-        undoNone();
     }
 
     private static void due(String what, long got, long want) {
@@ -132,7 +52,8 @@ final class ChangeEdges {
     }
 
     private static void seedWraps() {
-        Doc.says(TERMS, "To DRAW the BENCH of an OPEN case: SEED becomes SEED * 1103515245 + 12345 (an int, wrapping);");
+        Doc.says(TERMS, "To DRAW the BENCH of an OPEN case: SEED becomes SEED * 1103515245 + 12345 "
+                + "(an int, wrapping);");
         int[] told = {0, 1, 7, 4711, 9999};
         for (int first : told) {
             BenchComposer x = Courts.of("court " + first + " 1 1 1 1;" + "judge 1;".repeat(3) + "case 1;".repeat(14));
@@ -272,7 +193,7 @@ final class ChangeEdges {
         Doc.says(TERMS, "EXCHANGE: judge x of SET case a,");
         BenchComposer x = Courts.drawnAs("case 1;case 1;case 1;", 7, 7, 28);
         due("x is not on a", x.exchange(1, 3, 2, 4), -1);
-        due("x is on neither", x.exchange(1, 4, 0, 2), -1);
+        due("x is on neither", Courts.drawnAs("case 1;case 1;", 7, 11).exchange(0, 4, 1, 3), -1);
         due("a is SET", x.exchange(1, 0, 2, 3), 13);
         x.undo();
         x.hear(1);
@@ -297,7 +218,7 @@ final class ChangeEdges {
         Doc.says(TERMS, "and judge y of b, not on that of a, change places;");
         BenchComposer x = Courts.drawnAs("case 1;case 1;case 1;", 7, 7, 28);
         due("y is not on b", x.exchange(1, 0, 2, 1), -1);
-        due("y is on neither", x.exchange(0, 0, 1, 3), -1);
+        due("y is on neither", Courts.drawnAs("case 1;case 1;", 7, 11).exchange(0, 2, 1, 4), -1);
         due("y is on both", x.exchange(1, 0, 2, 2), -1);
         due("x and y are one", x.exchange(1, 0, 2, 0), -1);
         due("they change places", x.exchange(1, 0, 2, 3), 13);
@@ -364,12 +285,21 @@ final class ChangeEdges {
     private static void firstExchange() {
         Doc.says(TERMS, "BETTER: the first EXCHANGE, by a, x, b, y (a less than b),");
         for (int seed = 0; seed < 100; seed++) {
-            BenchComposer x = Courts.of("court " + seed + " 20 0 0 0;judge 1;judge 2;judge 3;judge 1;judge 2;judge 3;"
-                    + "senior 2;case 1;case 1 not 2;case 1;case 1 not 0 5;");
+            String text = "court " + seed + " 20 0 0 0;judge 1;judge 2;judge 3;judge 1;judge 2;judge 3;senior 2;"
+                    + "case 1;case 1 not 2;case 1;case 1 not 0 5;";
+            BenchComposer x = Courts.of(text);
             x.drawAll();
             dueBetter("SEED " + seed, x);
-            x.hear(seed % 4);
-            dueBetter("SEED " + seed + ", one HEARD", x);
+            BenchComposer heard = Courts.of(text);
+            heard.drawAll();
+            heard.hear(seed % 4);
+            dueBetter("SEED " + seed + ", one HEARD", heard);
+        }
+        for (int seed = 0; seed < 200; seed++) {
+            // A later one may be better still; the first it is.
+            BenchComposer x = Courts.of("court " + seed + " 20 0 0 0;" + "judge 1;".repeat(5) + "case 1;".repeat(5));
+            x.drawAll();
+            dueBetter("five cases, SEED " + seed, x);
         }
         BenchComposer back = Courts.drawnAs("case 1;case 1;case 1;", 28, 7, 7);
         due("a is less than b", back.better(0), 0);
@@ -1081,7 +1011,14 @@ final class ChangeEdges {
         due("that is not kept", x.now(5), 1);
         due("undo()", x.undo(), 0);
         due("all are OPEN", x.now(3), 0);
-        due("drawAll() of one", Courts.like(3, 1).drawAll(), 1);
+        x.draw(0);
+        x.draw(1);
+        x.draw(2);
+        x.draw(3);
+        due("drawAll() of one", x.drawAll(), 1);
+        due("it is kept", x.now(5), 5);
+        due("undo()", x.undo(), 4);
+        due("OPEN", x.of(4, 2), 0);
     }
 
     private static void undoSeed() {
@@ -1126,6 +1063,27 @@ final class ChangeEdges {
             due("SET", x.now(3) + x.now(4), Math.min(changes - kept, 14));
             due("HEARD", x.now(4), Math.max(changes - kept - 14, 0));
         }
+    }
+
+    private static void undoTenBehindRefused() {
+        Doc.says("Promise 30", "(10 at most are kept);");
+        BenchComposer x = Courts.like(3, 1);
+        String before = Courts.seen(x);
+        x.leave(2);
+        x.leave(1);
+        for (int i = 0; i < 4; i++) {
+            x.leave(0);
+            x.come(0);
+        }
+        due("now(5)", x.now(5), 10);
+        due("draw(0), one is there", x.draw(0), -1);
+        due("drawAll()", x.drawAll(), 0);
+        due("smooth()", x.smooth(), -1);
+        due("hear(0)", x.hear(0), -1);
+        for (int left = 9; left >= 0; left--) {
+            due("undo()", x.undo(), left);
+        }
+        dueAlike("none of the ten was lost", Courts.seen(x), before);
     }
 
     private static void undoNone() {

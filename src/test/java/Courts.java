@@ -5,6 +5,10 @@ final class Courts {
     /** The ten benches of five judges in order. */
     static final int[] OF_FIVE = {7, 11, 19, 13, 21, 25, 14, 22, 26, 28};
 
+    /** No judge of five and no case of five, and all that shifts and wraps might take for one. */
+    static final int[] NO_SUCH = {-1, 5, 9, 14, 15, 31, 32, 33, 64, Integer.MIN_VALUE, Integer.MIN_VALUE + 1,
+        Integer.MAX_VALUE};
+
     private Courts() {
     }
 
@@ -30,6 +34,13 @@ final class Courts {
         Check.due("draw(0)", x.draw(0), 7);
         Check.due("draw(1)", x.draw(1), 28);
         Check.due("draw(2)", x.draw(2), 14);
+        return x;
+    }
+
+    /** Case 0 has 0 1 2: for case 1 three benches have TENSION 0, six have 1, and 0 1 2 has 3. */
+    static BenchComposer threeSixOne(int unsure) {
+        BenchComposer x = of("court 1 " + unsure + " 1 0 0;" + "judge 1;".repeat(5) + "case 1 not 3 4;case 1;");
+        Check.due("draw(0)", x.draw(0), 7);
         return x;
     }
 

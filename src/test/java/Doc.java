@@ -67,8 +67,8 @@ final class Doc {
         for (Map.Entry<String, Section> entry : SECTIONS.entrySet()) {
             if (entry.getKey().equals("Terms") || entry.getKey().startsWith("Promise ")) {
                 Check.by(entry.getKey());
-                Check.due("words that no test names:" + forgotten(entry.getValue()), forgotten(entry.getValue()).isEmpty(),
-                        true);
+                String left = forgotten(entry.getValue());
+                Check.due("words that no test names: " + left, left.isEmpty(), true);
             }
         }
     }
@@ -81,6 +81,6 @@ final class Doc {
                 left.append(sign);
             }
         }
-        return left.toString().isBlank() ? "" : " " + left.toString().strip();
+        return left.toString().strip();
     }
 }

@@ -7,85 +7,25 @@ final class TextEdges {
     private static final int MIN = Integer.MIN_VALUE;
     private static final int MAX = Integer.MAX_VALUE;
 
+    static final Runnable[] ALL = {
+        TextEdges::blanks, TextEdges::words, TextEdges::numbers, TextEdges::sign, TextEdges::goesOn,
+        TextEdges::notAsToldIsNoToken,
+        TextEdges::atMost500, TextEdges::noLineOrMore, TextEdges::firstLine, TextEdges::seedRange,
+        TextEdges::unsureRange, TextEdges::evenRange, TextEdges::loadedRange, TextEdges::chairRange,
+        TextEdges::others, TextEdges::seniorityRange, TextEdges::nineJudges, TextEdges::seniorRange,
+        TextEdges::seniorOnce, TextEdges::seniorWithout, TextEdges::caseLine, TextEdges::weightRange,
+        TextEdges::barredToldAhead, TextEdges::barredNoTwoAlike, TextEdges::fourteenCases,
+        TextEdges::firstAlongTheText, TextEdges::leastOfOneToken, TextEdges::cannotCome, TextEdges::atTheEnd,
+        TextEdges::numberNotAsTold, TextEdges::numberOfJ, TextEdges::tenthJudge, TextEdges::secondSenior,
+        TextEdges::fifteenthCase, TextEdges::notTold, TextEdges::toldAlready,
+        TextEdges::moreThan500, TextEdges::noFaultAhead, TextEdges::readWhole,
+        TextEdges::newObject, TextEdges::twentyBytes, TextEdges::moreThan540, TextEdges::firstBytesAlone,
+        TextEdges::notSoMany, TextEdges::below0,
+        TextEdges::emptyThen, TextEdges::anEmptyText, TextEdges::howManyLines, TextEdges::placeOfAFault,
+        TextEdges::latestFault, TextEdges::withoutFault
+    };
+
     private TextEdges() {
-    }
-
-    static void all() {
-        tokens();
-        lines();
-        faults();
-        longTexts();
-        tape();
-        readings();
-    }
-
-    private static void tokens() {
-        blanks();
-        words();
-        numbers();
-        sign();
-        goesOn();
-        notAsToldIsNoToken();
-    }
-
-    private static void lines() {
-        atMost500();
-        noLineOrMore();
-        firstLine();
-        seedRange();
-        unsureRange();
-        evenRange();
-        loadedRange();
-        chairRange();
-        others();
-        seniorityRange();
-        nineJudges();
-        seniorRange();
-        seniorOnce();
-        seniorWithout();
-        caseLine();
-        weightRange();
-        barredToldAhead();
-        barredNoTwoAlike();
-        fourteenCases();
-    }
-
-    private static void faults() {
-        firstAlongTheText();
-        leastOfOneToken();
-        cannotCome();
-        atTheEnd();
-        numberNotAsTold();
-        numberOfJ();
-        tenthJudge();
-        secondSenior();
-        fifteenthCase();
-        notTold();
-        toldAlready();
-    }
-
-    private static void longTexts() {
-        moreThan500();
-        noFaultAhead();
-        readWhole();
-    }
-
-    private static void tape() {
-        newObject();
-        twentyBytes();
-        moreThan540();
-        firstBytesAlone();
-        notSoMany();
-        below0();
-    }
-
-    private static void readings() {
-        emptyThen();
-        anEmptyText();
-        howManyLines();
-        placeOfAFault();
-        latestFault();
-        withoutFault();
     }
 
     private static void due(String what, long got, long want) {
@@ -98,10 +38,15 @@ final class TextEdges {
         return sign == 32 || sign == 10;
     }
 
-    private static boolean goesOn(int sign) {
+    private static boolean isSmallOrDigit(int sign) {
         return sign >= 'a' && sign <= 'z' || sign >= '0' && sign <= '9';
     }
 
+    private static boolean isNoToken(int sign) {
+        return !isBlank(sign) && !isSmallOrDigit(sign) && sign != ';';
+    }
+
+    /** A FAULT of kind 1 at the place, with each of these signs between the two parts. */
     private static void eachSign(IntPredicate which, String ahead, String behind, int place) {
         for (int sign = 0; sign < 256; sign++) {
             if (which.test(sign)) {
@@ -115,8 +60,8 @@ final class TextEdges {
         Check.right("court 1 1 1 1 1;judge 5;case 1 not 0;", 3);
         Check.right(" \n\ncourt\n1  1 \n1\n 1 1\n;\n judge\n5 ;case 1\nnot 0 ;  \n", 3);
         // Any other sign between two TOKENS is no blank.
-        eachSign(sign -> !isBlank(sign) && !goesOn(sign) && sign != ';', "court 1 1 1 1 1 ", " ;", 16);
-        eachSign(sign -> !isBlank(sign) && !goesOn(sign) && sign != ';', "court", "1 1 1 1 1;", 5);
+        eachSign(TextEdges::isNoToken, "court 1 1 1 1 1 ", " ;", 16);
+        eachSign(TextEdges::isNoToken, "court", "1 1 1 1 1;", 5);
     }
 
     private static void words() {
@@ -155,16 +100,16 @@ final class TextEdges {
         Doc.says(TERMS, "the sign ;");
         Check.right("court 1 1 1 1 1;", 1);
         Check.right("court 1 1 1 1 1 ;judge 1 ;", 2);
-        eachSign(sign -> !isBlank(sign) && !goesOn(sign) && sign != ';', "court 1 1 1 1 1", "", 15);
+        eachSign(TextEdges::isNoToken, "court 1 1 1 1 1", "", 15);
     }
 
     private static void goesOn() {
         Doc.says(TERMS, "(A WORD, NUMBER goes on as long as small letters and digits do;");
-        eachSign(TextEdges::goesOn, COURT + "judge", " 5;", 16);
+        eachSign(TextEdges::isSmallOrDigit, COURT + "judge", " 5;", 16);
         eachSign(sign -> sign >= 'a' && sign <= 'z', COURT + "judge 5", ";", 22);
         // Behind another sign another TOKEN begins.
-        eachSign(sign -> !isBlank(sign) && !goesOn(sign), COURT + "judge", " 5;", 21);
-        eachSign(sign -> !isBlank(sign) && !goesOn(sign) && sign != ';', COURT + "judge 5", ";", 23);
+        eachSign(sign -> !isBlank(sign) && !isSmallOrDigit(sign), COURT + "judge", " 5;", 21);
+        eachSign(TextEdges::isNoToken, COURT + "judge 5", ";", 23);
         due("two digits are one NUMBER", Courts.of(COURT + "judge 42;").judge(0, 0), 42);
     }
 
@@ -215,6 +160,8 @@ final class TextEdges {
         Check.wrong("senior 5;" + COURT, 0, 1);
         Check.wrong("case 5;" + COURT, 0, 1);
         Check.wrong(COURT + COURT, 16, 1);
+        Check.wrong("dourt 1 1 1 1 1;", 0, 1);
+        Check.wrong("cours 1 1 1 1 1;", 0, 1);
         Check.wrong("court;", 5, 1);
         Check.wrong("court 1;", 7, 1);
         Check.wrong("court 1 1;", 9, 1);
@@ -231,18 +178,11 @@ final class TextEdges {
         Check.wrong("court -1 1 1 1 1;", 6, 1);
     }
 
-    /** How large POOL is behind case 0, if UNSURE is told so; TENSION is least for three, then for six, then for one. */
-    private static int poolOf(String unsure) {
-        BenchComposer x = Courts.of("court 1 " + unsure + " 1 0 0;" + "judge 1;".repeat(5) + "case 1 not 3 4;case 1;");
-        x.draw(0);
-        return x.pool(1);
-    }
-
     private static void unsureRange() {
         Doc.says(TERMS, "1 to 20,");
         Check.wrong("court 1 0 1 1 1;", 8, 2);
-        due("UNSURE 1", poolOf("1"), 3);
-        due("UNSURE 20", poolOf("20"), 10);
+        due("UNSURE 1", Courts.threeSixOne(1).pool(1), 3);
+        due("UNSURE 20", Courts.threeSixOne(20).pool(1), 10);
         Check.wrong("court 1 21 1 1 1;", 8, 2);
         Check.wrong("court 1 9999 1 1 1;", 8, 2);
     }
@@ -290,6 +230,10 @@ final class TextEdges {
         Check.wrong(COURT + "5;", 16, 1);
         Check.wrong(COURT + "cases 1;", 16, 1);
         Check.wrong(COURT + "judg 1;", 16, 1);
+        Check.wrong(COURT + "fudge 1;", 16, 1);
+        Check.wrong(COURT + "base 1;", 16, 1);
+        Check.wrong(COURT + "zenior 1;", 16, 1);
+        Check.wrong(COURT + "senioy 1;", 16, 1);
         Check.wrong(COURT + "seniority 1;", 16, 1);
     }
 
@@ -330,6 +274,9 @@ final class TextEdges {
         due("S 1", lawfulOf("senior 1;", 1, 1, 1), 1);
         due("S 99, reached", lawfulOf("senior 99;", 1, 1, 99), 1);
         due("S 99, not reached", lawfulOf("senior 99;", 98, 98, 98), 0);
+        BenchComposer x = Courts.like(3, 1);
+        due("another TEXT", Check.tell(x, COURT + "judge 1;judge 1;judge 1;senior 2;case 1;"), 6);
+        due("who was SENIOR in the TEXT ahead is not now", x.lawful(0), 0);
     }
 
     private static void seniorOnce() {
@@ -360,9 +307,12 @@ final class TextEdges {
         Check.wrong(two + "case 1 1;", 39, 1);
         Check.wrong(two + "case 1 not 1 not 0;", 45, 1);
         Check.wrong(two + "case 1 not not 0;", 43, 1);
+        Check.wrong(two + "case 1 hot 0;", 39, 1);
         BenchComposer nine = Courts.of(COURT + "judge 1;".repeat(9) + "case 1 not 8 7 6 5 4 3 2 1 0;case 2;");
         due("all nine", nine.of(0, 1), 511);
         due("nobody, behind all nine", nine.of(1, 1), 0);
+        due("another TEXT", Check.tell(nine, COURT + "judge 1;case 1;"), 3);
+        due("nobody, though somebody in the TEXT ahead", nine.of(0, 1), 0);
     }
 
     private static void weightRange() {
