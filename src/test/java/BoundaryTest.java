@@ -4,6 +4,7 @@ import java.io.IOException;
 public final class BoundaryTest {
     public static void main(String[] args) throws IOException {
         Doc.open();
+        runEach(StoryEdges.ALL);
         runEach(TextEdges.ALL);
         runEach(BenchEdges.ALL);
         runEach(ChangeEdges.ALL);

@@ -62,10 +62,10 @@ final class Doc {
         return null;
     }
 
-    /** Every word of the terms and the promises was named. */
+    /** Every word was named, but for the face, which FaceTest holds, and for what is not promised. */
     static void close() {
         for (Map.Entry<String, Section> entry : SECTIONS.entrySet()) {
-            if (entry.getKey().equals("Terms") || entry.getKey().startsWith("Promise ")) {
+            if (entry.getKey().matches("What it is|Terms|Promise .*")) {
                 Check.by(entry.getKey());
                 String left = forgotten(entry.getValue());
                 Check.due("words that no test names: " + left, left.isEmpty(), true);

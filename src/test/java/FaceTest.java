@@ -14,7 +14,8 @@ import java.util.TreeSet;
 public final class FaceTest {
     private static final String[] METHODS = {
         "int feed(int,int,int,int,int)", "boolean end(int)", "int text()", "int fault()", "int now(int)",
-        "int judge(int,int)", "int of(int,int)", "int pair(int,int)", "int spread(int)", "int lawful(int)",
+        "int judge(int,int) throws NoSuchElementException", "int of(int,int) throws NoSuchElementException",
+        "int pair(int,int)", "int spread(int)", "int lawful(int)",
         "int bench(int,int)", "int rank(int,int)", "int tension(int,int)", "int pool(int)", "int chances(int,int)",
         "int worst(int)", "int draw(int)", "int drawAll()", "int recuse(int,int)", "int leave(int)", "int come(int)",
         "int hear(int)", "int evenness()", "int better(int)", "int exchange(int,int,int,int)", "int smooth()",
@@ -24,6 +25,7 @@ public final class FaceTest {
 
     public static void main(String[] args) throws IOException {
         theFace();
+        theDocument();
         theClassesInside();
         theSource();
         Check.close("FaceTest");
@@ -37,7 +39,11 @@ public final class FaceTest {
             told.append(comma).append(type.getSimpleName());
             comma = ",";
         }
-        return told.append(')').toString();
+        told.append(')');
+        for (Class<?> thrown : method.getExceptionTypes()) {
+            told.append(" throws ").append(thrown.getSimpleName());
+        }
+        return told.toString();
     }
 
     private static void theFace() {
@@ -62,6 +68,28 @@ public final class FaceTest {
         Check.due("one constructor", made.length, 1);
         Check.due("it is public", Modifier.isPublic(made[0].getModifiers()), true);
         Check.due("it takes nothing", made[0].getParameterCount(), 0);
+    }
+
+    /** The list above is the document's, line by line. */
+    private static void theDocument() throws IOException {
+        Path file = Path.of(System.getProperty("project.root", "."), "../shared/DOC.md");
+        if (!Files.exists(file)) {
+            System.out.println("no " + file + ": the face is not compared with it");
+            return;
+        }
+        Set<String> due = new TreeSet<>(List.of(METHODS));
+        due.add("static final int NONE = -1");
+        due.add("BenchComposer()");
+        due.add("final class BenchComposer {");
+        String document = Files.readString(file);
+        for (String line : document.substring(document.indexOf("```java"), document.indexOf("## Terms")).split("\n")) {
+            if (line.strip().startsWith("public ")) {
+                String plain = line.strip().substring("public ".length()).replaceAll("int \\w+,\\s*", "int,")
+                        .replaceAll("int \\w+\\)", "int)").replace(";", "");
+                Check.due("the document's face has " + plain, due.remove(plain), true);
+            }
+        }
+        Check.due("it has not " + due, due.isEmpty(), true);
     }
 
     private static void theClassesInside() {
